@@ -1,8 +1,9 @@
+import java.util.List;
+
 /** Promises 1 to 5 and 17: a new object, insert, delete, copy, at, clear. */
 final class EditTest {
     private static final Class<IndexOutOfBoundsException> INDEX = IndexOutOfBoundsException.class;
     private static final Class<IllegalArgumentException> ARGUMENT = IllegalArgumentException.class;
-    private static final Class<UnsupportedOperationException> UNSUPPORTED = UnsupportedOperationException.class;
     private static final int MAX = Integer.MAX_VALUE;
     private static final int MIN = Integer.MIN_VALUE;
 
@@ -23,7 +24,7 @@ final class EditTest {
     }
 
     private static void isAsAtFirst(String what, PieceText x) {
-        Check.due(what + " has nothing", java.util.List.of(0, 0, 0, 0, 0, 0), Check.counts(x));
+        Check.due(what + " has nothing", List.of(0, 0, 0, 0, 0, 0), Check.counts(x));
         Check.refused(what + ": at(0)", x, INDEX, () -> x.at(0));
         Check.refused(what + ": word(0)", x, INDEX, () -> x.word(0));
         Check.refused(what + ": undo()", x, IllegalStateException.class, () -> x.undo());
@@ -54,16 +55,28 @@ final class EditTest {
         Check.due("actions of six inserts", 6, x.told(1));
     }
 
-    private static void insertRefuses() {
-        PieceText x = Check.of("abc");
+    /** A text with one action of the future behind it, so that a loss of the future shows. */
+    private static PieceText undoneTo(String text) {
+        PieceText x = Check.of(text + "q");
         x.undo();
-        Check.refused("insert(-1, 65)", x, INDEX, () -> x.insert(-1, 65));
-        Check.refused("insert(3, 65)", x, INDEX, () -> x.insert(3, 65));
-        Check.refused("insert(MAX, 65)", x, INDEX, () -> x.insert(MAX, 65));
-        Check.refused("insert(MIN, 65)", x, INDEX, () -> x.insert(MIN, 65));
-        Check.refused("insert(2, -1)", x, ARGUMENT, () -> x.insert(2, -1));
-        Check.refused("insert(2, 256)", x, ARGUMENT, () -> x.insert(2, 256));
-        Check.refused("insert(3, 256): the place is told first", x, INDEX, () -> x.insert(3, 256));
+        return x;
+    }
+
+    private static void refusedInsert(int place, int c, Class<? extends RuntimeException> due) {
+        PieceText x = undoneTo("ab");
+        Check.refused("insert(" + place + ", " + c + ")", x, due, () -> x.insert(place, c));
+    }
+
+    private static void insertRefuses() {
+        refusedInsert(-1, 65, INDEX);
+        refusedInsert(3, 65, INDEX);
+        refusedInsert(MAX, 65, INDEX);
+        refusedInsert(MIN, 65, INDEX);
+        refusedInsert(2, -1, ARGUMENT);
+        refusedInsert(2, 256, ARGUMENT);
+        refusedInsert(0, MAX, ARGUMENT);
+        refusedInsert(0, MIN, ARGUMENT);
+        refusedInsert(3, 256, INDEX);
     }
 
     private static void insertFillsTheText() {
@@ -73,7 +86,7 @@ final class EditTest {
         Check.due("the 241st", "throws.UnsupportedOperationException", Check.answer(() -> x.insert(0, 'z')));
         Check.due("the 241st, no place", "throws.IndexOutOfBoundsException", Check.answer(() -> x.insert(241, 'z')));
         Check.due("the 241st, no character", "throws.IllegalArgumentException", Check.answer(() -> x.insert(240, 256)));
-        Check.due("a full text", java.util.List.of(240, 11, 0, 0, 0, 2), Check.counts(x));
+        Check.due("a full text", List.of(240, 11, 0, 0, 0, 2), Check.counts(x));
         Check.due("its first", (int) 'x', x.at(0));
         Check.due("its last", (int) 'y', x.at(239));
         x.undo();
@@ -95,17 +108,20 @@ final class EditTest {
         Check.due("no text", "", Check.text(x));
     }
 
+    private static void refusedDelete(int place, int n, Class<? extends RuntimeException> due) {
+        PieceText x = undoneTo("abc");
+        Check.refused("delete(" + place + ", " + n + ")", x, due, () -> x.delete(place, n));
+    }
+
     private static void deleteRefuses() {
-        PieceText x = Check.of("abcd");
-        x.undo();
-        Check.refused("delete(-1, 0)", x, INDEX, () -> x.delete(-1, 0));
-        Check.refused("delete(4, 0)", x, INDEX, () -> x.delete(4, 0));
-        Check.refused("delete(0, -1)", x, ARGUMENT, () -> x.delete(0, -1));
-        Check.refused("delete(0, 4)", x, ARGUMENT, () -> x.delete(0, 4));
-        Check.refused("delete(3, 1)", x, ARGUMENT, () -> x.delete(3, 1));
-        Check.refused("delete(2, MAX)", x, ARGUMENT, () -> x.delete(2, MAX));
-        Check.refused("delete(2, MIN)", x, ARGUMENT, () -> x.delete(2, MIN));
-        Check.refused("delete(4, -1): the place is told first", x, INDEX, () -> x.delete(4, -1));
+        refusedDelete(-1, 0, INDEX);
+        refusedDelete(4, 0, INDEX);
+        refusedDelete(0, -1, ARGUMENT);
+        refusedDelete(0, 4, ARGUMENT);
+        refusedDelete(3, 1, ARGUMENT);
+        refusedDelete(2, MAX, ARGUMENT);
+        refusedDelete(2, MIN, ARGUMENT);
+        refusedDelete(4, -1, INDEX);
     }
 
     private static void copyIs(String text, int place, int n, int to, String want) {
@@ -130,19 +146,22 @@ final class EditTest {
         copyIs("", 0, 0, 0, "");
     }
 
+    private static void refusedCopy(int place, int n, int to, Class<? extends RuntimeException> due) {
+        PieceText x = undoneTo("abc");
+        Check.refused("copy(" + place + ", " + n + ", " + to + ")", x, due, () -> x.copy(place, n, to));
+    }
+
     private static void copyRefuses() {
-        PieceText x = Check.of("abcd");
-        x.undo();
-        Check.refused("copy(-1, 0, 0)", x, INDEX, () -> x.copy(-1, 0, 0));
-        Check.refused("copy(4, 0, 0)", x, INDEX, () -> x.copy(4, 0, 0));
-        Check.refused("copy(0, 1, -1)", x, INDEX, () -> x.copy(0, 1, -1));
-        Check.refused("copy(0, 1, 4)", x, INDEX, () -> x.copy(0, 1, 4));
-        Check.refused("copy(0, -1, 0)", x, ARGUMENT, () -> x.copy(0, -1, 0));
-        Check.refused("copy(0, 4, 0)", x, ARGUMENT, () -> x.copy(0, 4, 0));
-        Check.refused("copy(3, 1, 0)", x, ARGUMENT, () -> x.copy(3, 1, 0));
-        Check.refused("copy(2, MAX, 0)", x, ARGUMENT, () -> x.copy(2, MAX, 0));
-        Check.refused("copy(2, MIN, 0)", x, ARGUMENT, () -> x.copy(2, MIN, 0));
-        Check.refused("copy(0, -1, 4): the other place is told first", x, INDEX, () -> x.copy(0, -1, 4));
+        refusedCopy(-1, 0, 0, INDEX);
+        refusedCopy(4, 0, 0, INDEX);
+        refusedCopy(0, 1, -1, INDEX);
+        refusedCopy(0, 1, 4, INDEX);
+        refusedCopy(0, -1, 0, ARGUMENT);
+        refusedCopy(0, 4, 0, ARGUMENT);
+        refusedCopy(3, 1, 0, ARGUMENT);
+        refusedCopy(2, MAX, 0, ARGUMENT);
+        refusedCopy(2, MIN, 0, ARGUMENT);
+        refusedCopy(0, -1, 4, INDEX);
     }
 
     private static void copyFillsTheText() {
@@ -150,7 +169,7 @@ final class EditTest {
         x.delete(0, 100);
         Check.due("one too many", "throws.UnsupportedOperationException", Check.answer(() -> x.copy(0, 101, 0)));
         Check.due("not so many", "throws.IllegalArgumentException", Check.answer(() -> x.copy(0, 141, 0)));
-        Check.due("nothing changed", java.util.List.of(140, 10, 0, 0, 0, 1), Check.counts(x));
+        Check.due("nothing changed", List.of(140, 10, 0, 0, 0, 1), Check.counts(x));
         Check.due("as many as there may be", 240, x.copy(40, 100, 140));
         Check.due("one more", "throws.UnsupportedOperationException", Check.answer(() -> x.copy(0, 1, 0)));
         Check.due("none more", 240, x.copy(0, 0, 0));
@@ -190,8 +209,8 @@ final class EditTest {
         PieceText y = Check.of("c");
         Check.setPattern(x, "b");
         x.snapshot();
-        Check.due("another object", java.util.List.of(1, 1, 0, 0, 0, 1), Check.counts(y));
+        Check.due("another object", List.of(1, 1, 0, 0, 0, 1), Check.counts(y));
         y.clear();
-        Check.due("cleared beside it", java.util.List.of(2, 2, 0, 1, 2, 2), Check.counts(x));
+        Check.due("cleared beside it", List.of(2, 2, 0, 1, 2, 2), Check.counts(x));
     }
 }
