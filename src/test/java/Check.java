@@ -1,38 +1,73 @@
-import java.util.ArrayList;
-import java.util.List;
+import java.util.Arrays;
+import java.util.function.IntSupplier;
 
-/** What the tests share: comparing answers, making texts and looking at an object from outside. */
+/** Comparing answers: each test says which sentence of the document it is for. */
 final class Check {
-    interface Call {
-        int run();
+    /** Calls that bring a new object into a state, into the same one whenever they are done. */
+    interface Steps {
+        void on(PieceText x);
     }
 
+    interface Call {
+        int on(PieceText x);
+    }
+
+    // A fault that shows everywhere should not bury the log.
+    private static final int MOST_TOLD = 60;
+
     private static int wrong = 0;
+    private static String sentence = "";
 
     private Check() {
     }
 
+    /** Runs the test of a sentence; one that throws where it should not ends there, and the next one is run. */
+    static void sentence(String words, Runnable test) {
+        sentence = words;
+        try {
+            test.run();
+        } catch (RuntimeException e) {
+            tellWrong(e + " at " + Arrays.stream(e.getStackTrace()).limit(4).toList());
+        }
+    }
+
     static void due(String what, Object want, Object got) {
         if (!want.equals(got)) {
-            wrong++;
-            System.out.println(what + " answered " + got + ", due is " + want);
+            tellWrong(what + " answered " + got + ", due is " + want);
+        }
+    }
+
+    private static void tellWrong(String what) {
+        wrong++;
+        if (wrong <= MOST_TOLD) {
+            System.out.println("\"" + sentence + "\": " + what);
         }
     }
 
     /** The answer as a text, so that an exception is compared like a number. */
-    static String answer(Call call) {
+    static String answer(IntSupplier call) {
         try {
-            return String.valueOf(call.run());
+            return String.valueOf(call.getAsInt());
         } catch (RuntimeException e) {
             return "throws." + e.getClass().getSimpleName();
         }
     }
 
-    /** The call is refused as is due, and all that can be seen of x is as before. */
-    static void refused(String what, PieceText x, Class<? extends RuntimeException> due, Call call) {
-        String before = all(x);
-        due(what, "throws." + due.getSimpleName(), answer(call));
-        due("what stands behind " + what, before, all(x));
+    static String answer(PieceText x, Call call) {
+        return answer(() -> call.on(x));
+    }
+
+    /** In this state the call throws what is due, and nothing is changed behind it. */
+    static void refused(String what, Class<? extends RuntimeException> due, Steps state, Call call) {
+        String thrown = "throws." + due.getSimpleName();
+        due(what, thrown, answer(Given.made(state), call));
+        changesNothing(what, state, call);
+        due(what + " once more", thrown, answer(Given.made(Given.then(state, call)), call));
+    }
+
+    /** All that can be seen of an object in this state is the same with the call and without it. */
+    static void changesNothing(String what, Steps state, Call call) {
+        due("what stands behind " + what, Look.everything(state), Look.everything(Given.then(state, call)));
     }
 
     static void end(String test) {
@@ -40,73 +75,5 @@ final class Check {
             System.out.println(test + ": " + wrong + " answers are not as due");
             System.exit(1);
         }
-    }
-
-    static PieceText of(String text) {
-        PieceText x = new PieceText();
-        for (int i = 0; i < text.length(); i++) {
-            x.insert(i, text.charAt(i));
-        }
-        return x;
-    }
-
-    /** A text of 240 characters c, made in a few calls. */
-    static PieceText full(int c) {
-        PieceText x = new PieceText();
-        x.insert(0, c);
-        for (int length = 1; length < 240; length = x.told(0)) {
-            x.copy(0, Math.min(length, 240 - length), 0);
-        }
-        return x;
-    }
-
-    static void setPattern(PieceText x, String pattern) {
-        x.noPattern();
-        for (int i = 0; i < pattern.length(); i++) {
-            x.pattern(pattern.charAt(i));
-        }
-    }
-
-    static String text(PieceText x) {
-        StringBuilder text = new StringBuilder();
-        for (int i = 0; i < x.told(0); i++) {
-            text.append((char) x.at(i));
-        }
-        return text.toString();
-    }
-
-    static List<Integer> words(PieceText x) {
-        List<Integer> words = new ArrayList<>();
-        for (int i = 0; i < x.told(4); i++) {
-            words.add(x.word(i));
-        }
-        return words;
-    }
-
-    static List<Integer> counts(PieceText x) {
-        return List.of(x.told(0), x.told(1), x.told(2), x.told(3), x.told(4), x.told(5));
-    }
-
-    /** All that can be seen of x; for short texts, as an object has 512 calls only. */
-    static String all(PieceText x) {
-        List<Object> seen = new ArrayList<>();
-        seen.add(counts(x));
-        seen.add(words(x));
-        seen.add(x.find(0));
-        seen.add(text(x));
-        int past = x.told(1);
-        int future = x.told(2);
-        for (int i = 0; i < past; i++) {
-            x.undo();
-            seen.add(text(x));
-        }
-        for (int i = 0; i < past + future; i++) {
-            x.redo();
-            seen.add(i < past ? "" : text(x));
-        }
-        for (int i = 0; i < future; i++) {
-            x.undo();
-        }
-        return seen.toString();
     }
 }

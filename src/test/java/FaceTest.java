@@ -35,7 +35,7 @@ final class FaceTest {
         Check.due("the class", "public final", Modifier.toString(face.getModifiers()));
         Set<String> seen = new TreeSet<>();
         for (Field field : face.getDeclaredFields()) {
-            if (!Modifier.isPrivate(field.getModifiers())) {
+            if (!Modifier.isPrivate(field.getModifiers()) && !field.isSynthetic()) {
                 seen.add(Modifier.toString(field.getModifiers()) + " " + field.getType() + " " + field.getName());
             }
         }
@@ -43,7 +43,7 @@ final class FaceTest {
             seen.add(Modifier.toString(made.getModifiers()) + " PieceText(" + names(made.getParameterTypes(), ", ") + ")");
         }
         for (Method method : face.getDeclaredMethods()) {
-            if (!Modifier.isPrivate(method.getModifiers())) {
+            if (!Modifier.isPrivate(method.getModifiers()) && !method.isSynthetic()) {
                 seen.add(told(method));
             }
         }

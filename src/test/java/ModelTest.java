@@ -1,10 +1,13 @@
 import java.util.Random;
+import java.util.function.IntSupplier;
 
 /** All promises: long runs of calls, the same in every run of the test, answered as PlainText answers them. */
 final class ModelTest {
     private static final int RUNS = 4000;
-    // An object is promised for 512 calls; the last ones look at what is left.
-    private static final int CALLS = 250;
+    // An object is promised for 512 calls. Every other run keeps some of them
+    // for a look at the whole text, the others for the counts alone.
+    private static final int CALLS = 265;
+    private static final int CALLS_WITHOUT_TEXT = 505;
     private static final int[] ALPHABETS = {1, 2, 3, 26, 256};
 
     private final Random random;
@@ -21,19 +24,27 @@ final class ModelTest {
 
     public static void main(String[] args) {
         for (int run = 0; run < RUNS; run++) {
-            ModelTest test = new ModelTest(run);
-            for (int call = 0; call < CALLS; call++) {
-                test.call(call);
-            }
-            test.look();
+            int made = run;
+            Check.sentence("run " + run, () -> new ModelTest(made).runOfCalls());
         }
         Check.end("ModelTest");
     }
 
-    private void same(String what, Check.Call due, Check.Call got) {
+    private void runOfCalls() {
+        boolean withText = run % 2 == 0;
+        for (int call = 0; call < (withText ? CALLS : CALLS_WITHOUT_TEXT); call++) {
+            call(call);
+        }
+        lookAtCounts();
+        if (withText) {
+            lookAtText();
+        }
+    }
+
+    private void same(String what, IntSupplier due, IntSupplier got) {
         // A lookup of the library's own throws a subclass.
         String want = Check.answer(due).replaceAll("(String|Array)IndexOutOf", "IndexOutOf");
-        Check.due("run " + run + ", " + what, want, Check.answer(got));
+        Check.due(what, want, Check.answer(got));
     }
 
     /** A number that is mostly one of 0 .. limit, sometimes next to it, rarely far off. */
@@ -112,11 +123,14 @@ final class ModelTest {
         }
     }
 
-    private void look() {
+    private void lookAtCounts() {
         for (int what = 0; what <= 6; what++) {
             int told = what;
             same("told(" + told + ") at the end", () -> plain.told(told), () -> x.told(told));
         }
+    }
+
+    private void lookAtText() {
         for (int place = 0; place < plain.length(); place++) {
             int here = place;
             same("at(" + here + ") at the end", () -> plain.at(here), () -> x.at(here));
