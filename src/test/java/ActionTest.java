@@ -14,10 +14,13 @@ final class ActionTest {
         Check.sentence("the past keeps the latest 12 (of each kind)", ActionTest::pastKeepsTwelveOfEachKind);
         Check.sentence("the past keeps the latest 12 (of many more)", ActionTest::pastKeepsTwelveOfMany);
         Check.sentence("the past keeps the latest 12 (of full texts)", ActionTest::pastKeepsTwelveFullTexts);
-        Check.sentence("UNDOING takes the last one of the past back, and puts it before the future", ActionTest::undoing);
-        Check.sentence("DOING AGAIN does the first one of the future, and puts it behind the past", ActionTest::doingAgain);
+        Check.sentence("UNDOING takes the last one of the past back, and puts it before the future",
+            ActionTest::undoing);
+        Check.sentence("DOING AGAIN does the first one of the future, and puts it behind the past",
+            ActionTest::doingAgain);
         Check.sentence("DOING AGAIN does the first one of the future (as it was done)", ActionTest::doneAgainAsItWas);
-        Check.sentence("An edit that changes nothing, like taking out none, is an action, too", ActionTest::idleEditIsAnAction);
+        Check.sentence("An edit that changes nothing, like taking out none, is an action, too",
+            ActionTest::idleEditIsAnAction);
         Check.sentence("An edit that changes nothing (ends the future)", ActionTest::idleEditEndsTheFuture);
         Check.sentence("one that is refused is none", ActionTest::refusedEditIsNone);
         Check.sentence("Each edit is an ACTION (and no other call)", ActionTest::otherCallsAreNone);

@@ -10,7 +10,8 @@ final class EditTest {
     private static final Check.Steps ABC = x -> Given.put(x, "abc");
 
     public static void main(String[] args) {
-        Check.sentence("An object is used for at most 512 calls after it has been made", EditTest::fiveHundredTwelveCalls);
+        Check.sentence("An object is used for at most 512 calls after it has been made",
+            EditTest::fiveHundredTwelveCalls);
         Check.sentence("The TEXT has CHARACTERS, 0 .. 255", EditTest::charactersOfTheText);
         Check.sentence("240 at most (insert)", EditTest::insertUpTo240);
         Check.sentence("240 at most (copy)", EditTest::copyUpTo240);

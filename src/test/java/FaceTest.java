@@ -40,7 +40,8 @@ final class FaceTest {
             }
         }
         for (Constructor<?> made : face.getDeclaredConstructors()) {
-            seen.add(Modifier.toString(made.getModifiers()) + " PieceText(" + names(made.getParameterTypes(), ", ") + ")");
+            String parameters = names(made.getParameterTypes(), ", ");
+            seen.add(Modifier.toString(made.getModifiers()) + " PieceText(" + parameters + ")");
         }
         for (Method method : face.getDeclaredMethods()) {
             if (!Modifier.isPrivate(method.getModifiers()) && !method.isSynthetic()) {

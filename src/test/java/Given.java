@@ -56,7 +56,7 @@ final class Given {
         }
     }
 
-    /** Makes an object without a text have a snapshot of just these words, and the text 0, 1, 2, .. of as many characters. */
+    /** Makes an object without a text have a snapshot of just these words, and as many characters: 0, 1, 2, .. */
     static void words(PieceText x, int... words) {
         for (int i = 0; i < words.length; i++) {
             x.insert(i, i);

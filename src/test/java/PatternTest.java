@@ -22,7 +22,8 @@ final class PatternTest {
         Check.sentence("The first place, not before a given one, where the pattern occurs", PatternTest::findGoesOn);
         Check.sentence("one without characters: everywhere, behind the last, too", PatternTest::nothingIsEverywhere);
         Check.sentence("NONE (where the pattern does not occur)", PatternTest::findAnswersNone);
-        Check.sentence("IndexOutOfBounds: the place is not in the text, nor behind its last", PatternTest::findFromNoPlace);
+        Check.sentence("IndexOutOfBounds: the place is not in the text, nor behind its last",
+            PatternTest::findFromNoPlace);
         Check.sentence("REPLACING goes from the left", PatternTest::replaceFromTheLeft);
         Check.sentence("at the first place where it occurs it becomes one character", PatternTest::replaceByOne);
         Check.sentence("then on behind that", PatternTest::replaceGoesOnBehind);

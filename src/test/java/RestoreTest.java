@@ -13,10 +13,12 @@ final class RestoreTest {
         Check.sentence("It need not be the row that the text has", RestoreTest::readsAnotherRow);
         Check.sentence("below 0 (a word that is none)", RestoreTest::belowZero);
         Check.sentence("k above the number of words before it (a word that is none)", RestoreTest::kTooLarge);
-        Check.sentence("c 256 in one that is not the last one (a word that is none)", RestoreTest::noCharacterBeforeTheLast);
+        Check.sentence("c 256 in one that is not the last one (a word that is none)",
+            RestoreTest::noCharacterBeforeTheLast);
         Check.sentence("or with k 0 (c 256, a word that is none)", RestoreTest::noCharacterOfNothing);
         Check.sentence("or with which the text would be longer than 240", RestoreTest::longerThan240);
-        Check.sentence("or with which the text would be longer than 240 (before the last)", RestoreTest::longerBeforeTheLast);
+        Check.sentence("or with which the text would be longer than 240 (before the last)",
+            RestoreTest::longerBeforeTheLast);
         Check.sentence("it ends at the first word that is none", RestoreTest::endsAtTheFirst);
         Check.sentence("RESTORING the snapshot is an action: the length", RestoreTest::isAnAction);
         Check.sentence("RESTORING the snapshot (of no words)", RestoreTest::noWords);
