@@ -226,6 +226,13 @@ final class ActionTest {
         Check.due("redo() of restore()", 4, x.redo());
         Check.due("though the snapshot is another", "aabb", Look.text(x));
         Check.due("the pattern and the snapshot stay", List.of(4, 6, 0, 1, 3, 2), Look.counts(x));
+        Given.undo(x, 2);
+        x.noPattern();
+        x.poke(0, 'q');
+        Check.due("redo() of replace() without a pattern", 4, x.redo());
+        Check.due("is what it was", "ccbb", Look.text(x));
+        Check.due("redo() of restore() with words that would make qqbb", 4, x.redo());
+        Check.due("is what it was, too", "aabb", Look.text(x));
     }
 
     private static void idleEditIsAnAction() {

@@ -255,6 +255,15 @@ final class RestoreTest {
         Given.put(y, "abc");
         Check.due("restore() of a snapshot of no text", 0, y.restore());
         Check.due("is an action, too", List.of(0, 4, 0, 0, 0, 0), Look.counts(y));
+        PieceText z = Given.made(Given::some);
+        z.clear();
+        Given.put(z, "abc");
+        z.undo();
+        Check.due("restore() behind clear(), which takes the snapshot away", 0, z.restore());
+        Check.due("is an action that ends the future", List.of(0, 3, 0, 0, 0, 0), Look.counts(z));
+        Check.due("undo() of that", 2, z.undo());
+        Check.due("text behind that", "ab", Look.text(z));
+        Check.due("redo() of that", 0, z.redo());
     }
 
     private static void noneLessTheNumber() {
